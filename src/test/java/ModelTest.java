@@ -4,7 +4,7 @@ import java.util.TreeMap;
 
 /** All promises: long runs of calls with fixed seeds, each answer against that of the model. */
 public final class ModelTest {
-    private static final int RUNS = 400;
+    private static final int RUNS = 140;
     private static final int CALLS = 512;
     private static final int[] ODD = {-1, 4, 5, 6, 8, 13, 31, 32, 33, 39, 40, 63, 64, 160,
         Integer.MAX_VALUE, Integer.MIN_VALUE, Integer.MAX_VALUE - 1, 1 << 30};

@@ -3,7 +3,7 @@ public final class RowTest {
     private static final int[] WRONG = {-1, Integer.MIN_VALUE, Integer.MAX_VALUE};
 
     public static void main(String[] args) {
-        rowsOfOneTimeFollowIts();
+        rowsOfOneTimeFollowItsState();
         aRowNeedsTheWholePeriod();
         aRowMayComeBack();
         order();
@@ -19,12 +19,15 @@ public final class RowTest {
         }
     }
 
-    private static void rowsOfOneTimeFollowIts() {
+    private static void rowsOfOneTimeFollowItsState() {
         TwoTimesTable x = new TwoTimesTable();
         x.state(0, 0, 1, 0, 4);
         Check.due("one row", 1, x::rows);
         x.state(0, 0, 2, 1, 2);
         Check.due("split at its own time, no row is left behind", 3, x::rows);
+        rowIs(x, 0, 0, 1, 0, 1, 0, TwoTimesTable.NONE);
+        rowIs(x, 1, 0, 2, 1, 2, 0, TwoTimesTable.NONE);
+        rowIs(x, 2, 0, 1, 2, 4, 0, TwoTimesTable.NONE);
         x.state(4, 0, 0, 0, 32);
         Check.due("taken out at its own time, none is left", 0, x::rows);
         x.state(0, 0, 1, 0, 4);

@@ -13,6 +13,8 @@ public final class StatementTest {
         rowLimit();
         rowLimitCountsWhatEnded();
         presentOnly();
+        firstAndLastDay();
+        failureAtTheLastTime();
         Check.end("StatementTest");
     }
 
@@ -200,5 +202,33 @@ public final class StatementTest {
         Check.due("time 0", 10, () -> x.sum(0, 0, 32, 0));
         Check.due("time 1", 0, () -> x.sum(0, 0, 32, 1));
         Check.due("time 2", 20, () -> x.sum(0, 0, 32, 2));
+    }
+
+    /** A value on one edge day alone is met by just the periods that reach it. */
+    private static void firstAndLastDay() {
+        for (int edge = 0; edge < 32; edge += 31) {
+            TwoTimesTable x = new TwoTimesTable();
+            int day = edge;
+            x.state(0, 0, 5, day, day + 1);
+            Check.fails("insert on all days", Check.STATE, () -> x.state(1, 0, 1, 0, 32));
+            Check.due("update on all days", 1, () -> x.state(2, 0, 6, 0, 32));
+            Check.due("add on all days", 1, () -> x.state(3, 0, 6, 0, 32));
+            Check.fails("update beside it", Check.ELEMENT, () -> x.state(2, 0, 6, day == 0 ? 1 : 0, day == 0 ? 32 : 31));
+            Check.due("the value", 12, () -> x.value(0, day, 0));
+            Check.due("insert beside it", 31, () -> x.state(1, 0, 1, day == 0 ? 1 : 0, day == 0 ? 32 : 31));
+            Check.due("delete on all days", 32, () -> x.state(4, 0, 0, 0, 32));
+        }
+    }
+
+    private static void failureAtTheLastTime() {
+        TwoTimesTable x = new TwoTimesTable();
+        x.state(0, 3, 1, 0, 32);
+        for (int time = 1; time < 40; time++) {
+            x.tick();
+        }
+        Check.fails("insert", Check.STATE, () -> x.state(1, 3, 1, 31, 32));
+        Check.fails("delete", Check.ELEMENT, () -> x.state(4, 0, 1, 31, 32));
+        Check.fails("no key", Check.ARGUMENT, () -> x.state(0, 4, 1, 31, 32));
+        Check.due("rows", 1, x::rows);
     }
 }
