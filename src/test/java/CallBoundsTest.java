@@ -77,7 +77,7 @@ public final class CallBoundsTest {
         Check.due("clock", 39, x::clock);
     }
 
-    /** A tick that is refused leaves the last time's state, the rows and what waits; one that is not leaves what waits. */
+    /** A tick that is refused leaves the last time's state, the rows and what waits; no tick changes what waits. */
     private static void theRefusedTickChangesNothing() {
         Seen.refused("tick", Check.STATE, x -> {
             x.state(0, 0, 1, 0, 32);
@@ -137,7 +137,8 @@ public final class CallBoundsTest {
             for (int day : days) {
                 for (int time : times) {
                     boolean there = key >= 0 && key <= 3 && day >= 0 && day <= 31 && time >= 0 && time <= 1;
-                    Check.due("has " + key + " " + day + " " + time, there ? 1 : 0, () -> Check.of(x.has(key, day, time)));
+                    String what = "has " + key + " " + day + " " + time;
+                    Check.due(what, Check.of(there), () -> Check.of(x.has(key, day, time)));
                 }
             }
         }
@@ -315,7 +316,7 @@ public final class CallBoundsTest {
         }
     }
 
-    /** Promise 17: the most runs that there can be, with as many, with one that covers all, and with one at each end. */
+    /** Promise 17: the most runs that there can be, with as many, with one of all days, and with one at each end. */
     private static void theGreatestJoins() {
         TwoTimesTable x = new TwoTimesTable();
         Tables.singleDays(x, 0);

@@ -162,7 +162,7 @@ public final class CommitBoundsTest {
         Check.due("insert, put", 2, x::commit);
     }
 
-    /** "when one fails, nothing is changed at all": the first, one between or the last of eight, and each way to fail. */
+    /** "when one fails, nothing is changed at all": each of eight, and each way to fail. */
     private static void allOrNone() {
         Seen.Making making = x -> {
             Tables.rows(x, 100);

@@ -40,6 +40,7 @@ public final class FaceTest {
         methods();
         otherMembers();
         nestedClasses();
+        sizes();
         text(Files.readString(Path.of(args[0])));
         Check.end("FaceTest");
     }
@@ -107,6 +108,27 @@ public final class FaceTest {
                 Check.holds(f.getName(), !Modifier.isStatic(fm) || Modifier.isFinal(fm));
             }
         }
+    }
+
+    /** Rule 11, as far as it tells a number. */
+    private static void sizes() {
+        Class<?>[] inside = TwoTimesTable.class.getDeclaredClasses();
+        Check.holds("at most twelve classes", inside.length < 12);
+        sizesOf(TwoTimesTable.class);
+        for (Class<?> c : inside) {
+            sizesOf(c);
+        }
+    }
+
+    private static void sizesOf(Class<?> c) {
+        for (Method m : c.getDeclaredMethods()) {
+            Check.holds(m.getName() + " has at most seven parameters", m.getParameterCount() <= 7);
+        }
+        int fields = 0;
+        for (Field f : c.getDeclaredFields()) {
+            fields += Modifier.isStatic(f.getModifiers()) ? 0 : 1;
+        }
+        Check.holds(c.getName() + " has at most twenty fields", fields <= 20);
     }
 
     private static void text(String source) {

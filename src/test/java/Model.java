@@ -202,9 +202,17 @@ final class Model {
 
     int row(int k, int part) {
         need(part >= 0 && part <= 5);
-        List<Row> all = allRows();
-        Row r = all.get(within(k, all.size()));
-        return List.of(r.what.key, r.what.value, r.what.from, r.what.to, r.begin, r.end).get(part);
+        List<Integer> parts = allParts();
+        return parts.get(within(k, parts.size() / 6) * 6 + part);
+    }
+
+    /** The six parts of each row, one row behind the other. */
+    List<Integer> allParts() {
+        List<Integer> parts = new ArrayList<>();
+        for (Row r : allRows()) {
+            parts.addAll(List.of(r.what.key, r.what.value, r.what.from, r.what.to, r.begin, r.end));
+        }
+        return parts;
     }
 
     int changes(int key, int day) {

@@ -1,3 +1,5 @@
+import java.util.ArrayList;
+import java.util.List;
 import java.util.Map;
 import java.util.Random;
 import java.util.TreeMap;
@@ -16,6 +18,8 @@ public final class ModelTest {
     private final int oddWeight;
     private final boolean shortPeriods;
     private final Map<String, Integer> outcomes;
+    private final List<Seen.Question> done = new ArrayList<>();
+    private int calls = 0;
 
     private ModelTest(int seed, Map<String, Integer> outcomes) {
         random = new Random(seed);
@@ -40,13 +44,13 @@ public final class ModelTest {
     }
 
     private void go(int seed) {
-        for (int i = 0; i < CALLS && !Check.anyWrong(); i++) {
-            String at = "seed " + seed + " call " + i + " ";
+        while (calls < CALLS && !Check.anyWrong()) {
+            String at = "seed " + seed + " call " + calls + " ";
             int dice = random.nextInt(100);
             if (dice < 40) {
                 statement(at);
             } else if (dice < 40 + tickWeight) {
-                both(at + "tick()", "tick", table::tick, model::tick);
+                change(at + "tick()", "tick", TwoTimesTable::tick, model::tick);
             } else if (dice < 70) {
                 waiting(at);
             } else {
@@ -57,13 +61,30 @@ public final class ModelTest {
     }
 
     private void both(String what, String name, Check.Call got, Check.Call want) {
-        int before = model.rows();
+        if (calls == CALLS) {
+            return;
+        }
+        calls++;
         String due = Check.outcome(want);
         Check.same(what, due, Check.outcome(got));
         String kind = due.startsWith("throws") ? due : "ok";
         outcomes.merge(name + " " + kind, 1, Integer::sum);
-        if (due.equals("throws.IllegalStateException") && before > 140) {
+        if (due.equals("throws.IllegalStateException") && model.rows() > 140) {
             outcomes.merge(name + " full", 1, Integer::sum);
+        }
+    }
+
+    /** As both(), with a call that may change the table and so is done again wherever the table is made again. */
+    private void change(String what, String name, Seen.Question call, Check.Call want) {
+        if (calls < CALLS) {
+            done.add(call);
+        }
+        both(what, name, () -> call.of(table), want);
+    }
+
+    private void again(TwoTimesTable x) {
+        for (Seen.Question call : done) {
+            Check.outcome(() -> call.of(x));
         }
     }
 
@@ -107,19 +128,19 @@ public final class ModelTest {
 
     private void statement(String at) {
         int[] w = words();
-        both(at + told("state", w), "state", () -> table.state(w[0], w[1], w[2], w[3], w[4]),
+        change(at + told("state", w), "state", x -> x.state(w[0], w[1], w[2], w[3], w[4]),
                 () -> model.state(w[0], w[1], w[2], w[3], w[4]));
     }
 
     private void waiting(String at) {
         if (random.nextInt(4) == 0) {
-            both(at + "commit()", "commit", table::commit, model::commit);
+            change(at + "commit()", "commit", TwoTimesTable::commit, model::commit);
             both(at + "failed()", "failed", table::failed, model::failed);
             return;
         }
         for (int i = random.nextInt(4); i >= 0; i--) {
             int[] w = words();
-            both(at + told("queue", w), "queue", () -> Check.of(table.queue(w[0], w[1], w[2], w[3], w[4])),
+            change(at + told("queue", w), "queue", x -> Check.of(x.queue(w[0], w[1], w[2], w[3], w[4])),
                     () -> Check.of(model.queue(w[0], w[1], w[2], w[3], w[4])));
         }
     }
@@ -139,7 +160,8 @@ public final class ModelTest {
         switch (random.nextInt(12)) {
             case 0 -> both(at + "clock()", "clock", table::clock, model::clock);
             case 1 -> both(at + "failed()", "failed", table::failed, model::failed);
-            case 2 -> both(at + told("value", a, d, t), "value", () -> table.value(a, d, t), () -> model.value(a, d, t));
+            case 2 -> both(at + told("value", a, d, t), "value", () -> table.value(a, d, t),
+                    () -> model.value(a, d, t));
             case 3 -> both(at + told("has", a, d, t), "has", () -> Check.of(table.has(a, d, t)),
                     () -> Check.of(model.has(a, d, t)));
             case 4 -> both(at + told("sum", a, p[0], p[1], t), "sum", () -> table.sum(a, p[0], p[1], t),
@@ -158,26 +180,43 @@ public final class ModelTest {
         }
     }
 
-    /** Reading changes nothing, so what no call of the run asked about is asked here. */
+    /**
+     * What no call of the run asked about, of tables that are made as this one was, as it has had its 512 calls.
+     */
     private void everything(String at) {
-        int rows = model.rows();
-        Check.due(at + "rows()", rows, table::rows);
-        for (int i = 0; i < rows * 6; i++) {
-            int n = i;
-            Check.due(at + "row", model.row(n / 6, n % 6), () -> table.row(n / 6, n % 6));
+        int left = CALLS - done.size();
+        List<Seen.Question> questions = new ArrayList<>();
+        List<String> due = new ArrayList<>();
+        ask(questions, due);
+        for (int first = 0; left > 0 && first < questions.size(); first += left) {
+            TwoTimesTable x = Seen.made(this::again);
+            for (int i = first; i < Math.min(first + left, questions.size()); i++) {
+                Seen.Question question = questions.get(i);
+                Check.same(at + "question " + i, due.get(i), Check.outcome(() -> question.of(x)));
+            }
         }
-        for (int i = 0; i < (model.clock() + 1) * 128; i++) {
-            int day = i % 32;
-            int key = i / 32 % 4;
-            int time = i / 128;
-            Check.same(at + told("value", key, day, time), Check.outcome(() -> model.value(key, day, time)),
-                    Check.outcome(() -> table.value(key, day, time)));
+        Check.holds(at + "there is room for questions", left > 0);
+    }
+
+    private void ask(List<Seen.Question> questions, List<String> due) {
+        int time = model.clock();
+        List<Integer> parts = model.allParts();
+        for (int i = 0; i < parts.size(); i++) {
+            int n = i;
+            questions.add(x -> x.row(n / 6, n % 6));
+            due.add(Integer.toString(parts.get(i)));
+        }
+        questions.add(TwoTimesTable::rows);
+        due.add(Integer.toString(parts.size() / 6));
+        for (int i = 0; i < (time + 1) * 128; i++) {
+            int n = i;
+            questions.add(x -> x.value(n / 32 % 4, n % 32, n / 128));
+            due.add(Check.outcome(() -> model.value(n / 32 % 4, n % 32, n / 128)));
         }
         for (int i = 0; i < 16 * 13; i++) {
             int n = i;
-            int time = model.clock();
-            Check.due(at + "join", model.join(n / 13 % 4, n / 52, time, n % 13),
-                    () -> table.join(n / 13 % 4, n / 52, time, n % 13));
+            questions.add(x -> x.join(n / 13 % 4, n / 52, time, n % 13));
+            due.add(Integer.toString(model.join(n / 13 % 4, n / 52, time, n % 13)));
         }
     }
 }

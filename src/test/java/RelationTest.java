@@ -38,10 +38,10 @@ public final class RelationTest {
     }
 
     private static void allPairsOfPeriods() {
-        TwoTimesTable x = new TwoTimesTable();
         for (int a = 0; a < 32; a++) {
             for (int b = a + 1; b <= 32; b++) {
                 for (int c = 0; c < 32; c++) {
+                    TwoTimesTable x = new TwoTimesTable();
                     for (int d = c + 1; d <= 32; d++) {
                         int[] p = {a, b, c, d};
                         Check.due("relation", wanted(a, b, c, d), () -> x.relation(p[0], p[1], p[2], p[3]));

@@ -41,7 +41,7 @@ public final class RowBoundsTest {
         }
     }
 
-    /** "the longest periods in which it has the same value on all days": neighbours are one, a day between parts them. */
+    /** "the longest periods in which it has the same value on all days": a day between keeps them apart. */
     private static void runsAreTheLongestPeriods() {
         TwoTimesTable x = new TwoTimesTable();
         x.state(1, 1, 5, 4, 6);
@@ -243,7 +243,7 @@ public final class RowBoundsTest {
         rowIs(x, 0, 1, 6, 0, 32, 0, NONE);
     }
 
-    /** "just when the period is a run of the key with the value": a day more or less at either end, or another value. */
+    /** "just when the period is a run of the key with the value": not with a day more or less, or another value. */
     private static void anotherRunIsAnotherRow() {
         int[][] statements = {{0, 5, 3, 4}, {0, 5, 8, 9}, {4, 0, 4, 5}, {4, 0, 7, 8}, {3, 1, 4, 8}, {2, 6, 0, 32}};
         int[][] rows = {{5, 3, 8}, {5, 4, 9}, {5, 5, 8}, {5, 4, 7}, {6, 4, 8}, {6, 4, 8}};
@@ -283,7 +283,7 @@ public final class RowBoundsTest {
         rowIs(x, 19, 2, 5, 10, 12, 38, NONE);
     }
 
-    /** "numbered 0, 1, .. by their keys, those of one key by their begins, those of one key and begin by the first days". */
+    /** "by their keys, those of one key by their begins, those of one key and begin by the first days". */
     private static void rowsByKeysThenBeginsThenDays() {
         TwoTimesTable x = new TwoTimesTable();
         x.state(0, 3, 9, 0, 1);

@@ -26,8 +26,9 @@ public final class StatementBoundsTest {
     /** "when there is no such kind": 0 and 4 are the first and the last. */
     private static void whichKindsThereAre() {
         for (int wrong : NO_KINDS) {
-            Seen.refused("kind " + wrong + " on values", Check.ARGUMENT, Tables::fillAll, x -> x.state(wrong, 0, 1, 0, 32));
-            Seen.refused("kind " + wrong + " on nothing", Check.ARGUMENT, x -> x.tick(), x -> x.state(wrong, 0, 1, 0, 32));
+            Seen.Question statement = x -> x.state(wrong, 0, 1, 0, 32);
+            Seen.refused("kind " + wrong + " on values", Check.ARGUMENT, Tables::fillAll, statement);
+            Seen.refused("kind " + wrong + " on nothing", Check.ARGUMENT, TwoTimesTable::tick, statement);
             TwoTimesTable x = new TwoTimesTable();
             x.queue(wrong, 0, 1, 0, 32);
             Check.fails("kind " + wrong + " that waited", Check.ARGUMENT, x::commit);
@@ -121,7 +122,7 @@ public final class StatementBoundsTest {
         }
     }
 
-    /** "the value given is added to those that it has there (ints wrap)": up to the bound, and over it, on both sides. */
+    /** "the value given is added to those that it has there (ints wrap)": up to both bounds, and over them. */
     private static void intsWrapWhenAddAdds() {
         int max = Integer.MAX_VALUE;
         int min = Integer.MIN_VALUE;

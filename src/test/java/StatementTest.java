@@ -213,9 +213,10 @@ public final class StatementTest {
             Check.fails("insert on all days", Check.STATE, () -> x.state(1, 0, 1, 0, 32));
             Check.due("update on all days", 1, () -> x.state(2, 0, 6, 0, 32));
             Check.due("add on all days", 1, () -> x.state(3, 0, 6, 0, 32));
-            Check.fails("update beside it", Check.ELEMENT, () -> x.state(2, 0, 6, day == 0 ? 1 : 0, day == 0 ? 32 : 31));
+            int from = day == 0 ? 1 : 0;
+            Check.fails("update beside it", Check.ELEMENT, () -> x.state(2, 0, 6, from, from + 31));
             Check.due("the value", 12, () -> x.value(0, day, 0));
-            Check.due("insert beside it", 31, () -> x.state(1, 0, 1, day == 0 ? 1 : 0, day == 0 ? 32 : 31));
+            Check.due("insert beside it", 31, () -> x.state(1, 0, 1, from, from + 31));
             Check.due("delete on all days", 32, () -> x.state(4, 0, 0, 0, 32));
         }
     }

@@ -2,7 +2,8 @@
 public final class TermBoundsTest {
     private static final int[] NO_KEYS = {-1, 4, 5, 128, 1 << 27, 1 << 30, Integer.MAX_VALUE, Integer.MIN_VALUE};
     private static final int[] NO_DAYS = {-1, 32, 33, 63, 64, 1 << 27, Integer.MAX_VALUE, Integer.MIN_VALUE};
-    private static final int[] FAR = {Integer.MIN_VALUE, Integer.MIN_VALUE + 1, Integer.MAX_VALUE - 1, Integer.MAX_VALUE};
+    private static final int[] FAR = {Integer.MIN_VALUE, Integer.MIN_VALUE + 1, Integer.MAX_VALUE - 1,
+        Integer.MAX_VALUE};
     private static final int[] VALUES = {Integer.MIN_VALUE, Integer.MIN_VALUE + 1, -2, -1, 0, 1, Integer.MAX_VALUE - 1,
         Integer.MAX_VALUE};
 
