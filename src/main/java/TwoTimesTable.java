@@ -19,6 +19,7 @@ public final class TwoTimesTable {
 
     private static final int PUT = 0;
     private static final int INSERT = 1;
+    private static final int UPDATE = 2;
     private static final int ADD = 3;
     private static final int DELETE = 4;
 
@@ -133,10 +134,10 @@ public final class TwoTimesTable {
             throw new IllegalArgumentException();
         }
         int slot = slotOf(time, key);
-        if (k < 0 || k >= states.countRuns(slot)) {
+        int from = states.runStart(slot, k);
+        if (from == NONE) {
             throw new IndexOutOfBoundsException();
         }
-        int from = states.runStart(slot, k);
         if (part == 0) {
             return from;
         }
@@ -289,7 +290,7 @@ public final class TwoTimesTable {
             }
             int slot = slotOf(present, key);
             boolean meetsValue = (filled[slot] & maskOf(from, to)) != 0;
-            if (kind > INSERT && !meetsValue) {
+            if (kind >= UPDATE && !meetsValue) {
                 return NOTHING_TO_CHANGE;
             }
             if (kind == INSERT && meetsValue) {
@@ -311,7 +312,7 @@ public final class TwoTimesTable {
 
         private boolean changeDay(int kind, int slot, int day, int value) {
             boolean wasFilled = isFilled(slot, day);
-            if (!wasFilled && kind > INSERT) {
+            if (!wasFilled && kind >= UPDATE) {
                 return false;
             }
             if (kind == DELETE) {
@@ -373,15 +374,15 @@ public final class TwoTimesTable {
             return count;
         }
 
-        /** The first day of run k, of which the caller knows that it is there. */
+        /** The first day of run k; NONE when there is no such run. */
         int runStart(int slot, int k) {
-            int left = k;
+            int number = 0;
             for (int day = 0; day < DAYS; day++) {
                 if (startsRun(slot, day)) {
-                    if (left == 0) {
+                    if (number == k) {
                         return day;
                     }
-                    left--;
+                    number++;
                 }
             }
             return NONE;
@@ -448,13 +449,13 @@ public final class TwoTimesTable {
 
         /** The first day of row k of those that begin in a slot, of which the caller knows that it is there. */
         private int rowStart(int slot, int k) {
-            int left = k;
+            int number = 0;
             for (int day = 0; day < DAYS; day++) {
                 if (startsRow(slot, day)) {
-                    if (left == 0) {
+                    if (number == k) {
                         return day;
                     }
-                    left--;
+                    number++;
                 }
             }
             return 0;

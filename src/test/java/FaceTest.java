@@ -41,7 +41,7 @@ public final class FaceTest {
         otherMembers();
         nestedClasses();
         sizes();
-        text(Files.readString(Path.of(args[0])));
+        text(Files.readString(Path.of("src/main/java/TwoTimesTable.java")));
         Check.end("FaceTest");
     }
 

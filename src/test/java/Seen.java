@@ -56,15 +56,19 @@ final class Seen {
     }
 
     static String table(Making making) {
-        List<Question> questions = questions(made(making));
-        StringBuilder text = new StringBuilder();
+        return String.join(" ", answers(making, questions(made(making)))) + " ";
+    }
+
+    /** What tables that are made alike answer, each asked a lot of the questions. */
+    static List<String> answers(Making making, List<Question> questions) {
+        List<String> answers = new ArrayList<>();
         for (int first = 0; first < questions.size(); first += LOT) {
             TwoTimesTable x = made(making);
             for (Question q : questions.subList(first, Math.min(first + LOT, questions.size()))) {
-                text.append(Check.outcome(() -> q.of(x))).append(' ');
+                answers.add(Check.outcome(() -> q.of(x)));
             }
         }
-        return text.toString();
+        return answers;
     }
 
     private static List<Question> questions(TwoTimesTable x) {
